@@ -362,7 +362,7 @@ public final class LessonHorses {
         return index >= 0 && index < row.length ? row[index] : 0;
     }
 
-    /** Rows of numbers. A cell outside reads as 0 and keeps nothing, so that no access can throw. */
+    /** Rows of numbers. A cell outside reads as 0 and keeps nothing, so that every index is looked at in one place. */
     private static final class Table {
         private final int width;
         private final int[] cells;

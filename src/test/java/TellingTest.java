@@ -18,6 +18,8 @@ public final class TellingTest {
         promise19WrongInputs();
         promise20TakenIn();
         promise20NoLessonsAreGiven();
+        promise20LessonsWouldOccupyTheFarrier();
+        promise20StrengthEqualToWeight();
         promise20BeyondTheBoundOfTheTime();
         promise20WrongInputs();
         promise21IfPassed();
@@ -227,6 +229,32 @@ public final class TellingTest {
         due.is("tiredness at 19", stable.horse(9, 2), 1);
         stable.set(0, 1);
         due.is("a night", stable.takenIn(9, 1), 1);
+    }
+
+    private static void promise20LessonsWouldOccupyTheFarrier() {
+        LessonHorses stable = onDayOne();
+        stable.set(1, 2);
+        stable.set(2, 0);
+        stable.setRider(0, 121, 9);
+        stable.book(0, 0, 0);
+        stable.book(1, 0, 0);
+        stable.book(1, 0, 1);
+        stable.book(4, 0, 1);
+        stable.pass(2);
+        due.is("shoes of 0", stable.horse(0, 3), 1);
+        due.is("shoes of 9", stable.horse(9, 3), 2);
+        due.is("the horse 9 is the farrier's first one", stable.takenIn(9, 0), 19);
+        stable.pass(3);
+        due.is("shoes of 0 behind the lesson", stable.horse(0, 3), 2);
+        due.is("the horse 9 is his second one now", stable.takenIn(9, 0), 17);
+    }
+
+    private static void promise20StrengthEqualToWeight() {
+        LessonHorses stable = new LessonHorses();
+        stable.setRider(0, 80, 1);
+        due.is("strength equal to weight", stable.takenIn(0, 0), 0);
+        stable.setRider(0, 81, 1);
+        due.is("strength below weight", stable.takenIn(0, 0), NONE);
     }
 
     private static void promise20BeyondTheBoundOfTheTime() {
