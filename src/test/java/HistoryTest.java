@@ -1,3 +1,5 @@
+import java.util.Arrays;
+
 /** Promises 11 to 13: undo, keep, restore, and which calls are acts. */
 public final class HistoryTest {
     private static final int NONE = -5;
@@ -69,7 +71,8 @@ public final class HistoryTest {
         due.is("texts are no acts", stable.undo(), NONE);
     }
 
-    private static void promise11BringsAllBack() {
+    /** A stable in which much goes on in each of the next hours. */
+    private static LessonHorses withTwelveHours() {
         LessonHorses stable = new LessonHorses();
         stable.set(2, 50);
         stable.setHorse(9, 125, 9);
@@ -79,43 +82,33 @@ public final class HistoryTest {
             stable.book(hours, 1, 1 + hours % 11);
         }
         stable.pass(5);
-        long before = print(stable);
-        long[] prints = new long[4];
-        for (int act = 0; act < 4; act++) {
-            prints[act] = print(stable);
-            stable.pass(3);
-        }
-        due.holds("passing hours can be seen", print(stable) != before);
-        for (int act = 3; act >= 0; act--) {
-            due.is("undo()", stable.undo(), act);
-            due.is("all is as before the act " + act, print(stable), prints[act]);
-        }
+        return stable;
     }
 
-    /** Folds all that can be asked of the state into one number. */
-    private static long print(LessonHorses stable) {
-        long print = 17;
-        for (int what = 0; what < 17; what++) {
-            print = print * 31 + stable.count(what);
+    private static LessonHorses passedAndUndone(int acts, int undone) {
+        LessonHorses stable = withTwelveHours();
+        for (int act = 0; act < acts; act++) {
+            stable.pass(3);
         }
-        for (int what = 0; what < 9; what++) {
-            for (int horse = 0; horse < 10; horse++) {
-                print = print * 31 + stable.horse(horse, what);
+        for (int undo = 1; undo <= undone; undo++) {
+            due.is("undo()", stable.undo(), 4 - undo);
+        }
+        return stable;
+    }
+
+    private static void promise11BringsAllBack() {
+        for (int undone = 0; undone <= 4; undone++) {
+            int[] told = Given.allTold(passedAndUndone(4, undone));
+            int[] wanted = Given.allTold(passedAndUndone(4 - undone, 0));
+            int others = 0;
+            for (int index = 0; index < told.length; index++) {
+                // The history is shorter, but nothing else is other.
+                others += index != 17 && told[index] != wanted[index] ? 1 : 0;
             }
+            due.is("what is other behind " + undone + " undo()", others, 0);
         }
-        for (int what = 0; what < 10; what++) {
-            for (int rider = 0; rider < 12; rider++) {
-                print = print * 31 + stable.rider(rider, what);
-            }
-        }
-        for (int rank = 0; rank < 60; rank++) {
-            print = print * 31 + stable.fall(rank / 3, rank % 3);
-        }
-        for (int hours = 0; hours < 15; hours++) {
-            print = print * 31 + stable.lesson(hours, 0, 2);
-            print = print * 31 + stable.lesson(hours, 1, 2);
-        }
-        return print;
+        due.holds("passing hours can be seen",
+                !Arrays.equals(Given.allTold(passedAndUndone(3, 0)), Given.allTold(passedAndUndone(4, 0))));
     }
 
     private static void promise11TextStays() {
